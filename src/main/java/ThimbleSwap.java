@@ -246,7 +246,7 @@ public final class ThimbleSwap {
             layOutOwn(c);
             int numbers = numbersLaidOut(set);
             int states = statesLaidOut(set);
-            if (numbers > mostNumbers || (numbers > 0 && numbers == mostNumbers && states > mostStates)) {
+            if (numbers > mostNumbers || (numbers == mostNumbers && states > mostStates)) {
                 finest = c;
                 mostNumbers = numbers;
                 mostStates = states;
@@ -472,8 +472,11 @@ public final class ThimbleSwap {
         int best = NONE;
         int mostGained = 0;
         for (int a = 0; a < thimbles; a++) {
+            if (!isAtHomeWith(a, one)) {
+                continue;
+            }
             for (int b = 0; b < thimbles; b++) {
-                if (!isAtHomeWith(a, one) || !isAtHomeWith(b, two)) {
+                if (!isAtHomeWith(b, two)) {
                     continue;
                 }
                 int gainOfOne = worthAfter(one, a, b) - worthOfOne;

@@ -38,6 +38,7 @@ public final class PromisesTest {
         promise18Count();
         promise19Mean();
         promise20Digest();
+        fullMuseum();
         CheckHelper.end();
     }
 
@@ -324,6 +325,19 @@ public final class PromisesTest {
         CheckHelper.due("gain of 4 against grudges of 2 and 1", 1, () -> two.swap(1, 3));
         CheckHelper.due("gain of 4 against grudges of 2 and 2", 3, () -> two.swap(1, 3));
         CheckHelper.due("no grudge grows", 2, () -> two.grudge(1, 0));
+        ThimbleSwap twice = grudgingPair(2);
+        twice.find(1, 0, 1, 6, 6);
+        CheckHelper.due("gain of 5", 5, () -> twice.gains(1, 6));
+        CheckHelper.due("gain of 5 against a grudge of 2", 0, () -> twice.swap(1, 6));
+        CheckHelper.due("grudge is less", 1, () -> twice.grudge(0, 1));
+        ThimbleSwap both = grudgingPair(1);
+        both.like(0, 2, 5);
+        both.like(1, 2, 5);
+        both.like(1, 3, 0);
+        CheckHelper.due("swap that 0 refuses", 1, () -> both.swap(4, 5));
+        CheckHelper.due("grudges of both", 2, () -> both.grudge(0, 1) + both.grudge(1, 0));
+        CheckHelper.due("gain of 4 against grudges of 1", 0, () -> both.swap(1, 3));
+        CheckHelper.due("both are less", 0, () -> both.grudge(0, 1) + both.grudge(1, 0));
     }
 
     private static void promise9WrongSwaps() {
@@ -733,5 +747,29 @@ public final class PromisesTest {
             CheckHelper.dueIndex("a call that throws", x, () -> x.thimble(t, 0));
         }
         CheckHelper.due("digest behind calls that throw", want, x::digest);
+    }
+
+    /** The last row of everything is in use: a step too far would show as an exception of the machine's. */
+    private static void fullMuseum() {
+        ThimbleSwap x = museum(7);
+        for (int t = 0; t < 36; t++) {
+            x.find(6 - t % 7, 7 - t % 8, 5 - t % 6, 19 - t % 20, t % 10);
+        }
+        CheckHelper.due("lend the last", 30, () -> x.lend(35, 30));
+        CheckHelper.due("last thimble", 30, () -> x.thimble(35, 5));
+        CheckHelper.due("last thimble", 6, () -> x.collector(6, 0));
+        CheckHelper.due("grudge", 0, () -> x.grudge(6, 6));
+        CheckHelper.due("thimbles that are lent", 1, () -> x.count(3));
+        CheckHelper.due("shows", 1, () -> x.shows(4));
+        CheckHelper.due("lacks", -1, () -> x.lacks(4));
+        CheckHelper.due("finest", 0, () -> Math.min(x.finest(7), 0));
+        CheckHelper.due("best is told", 1, () -> x.best(5, 6) >= -1 ? 1 : 0);
+        CheckHelper.due("ring is told", 1, () -> x.ring(33, 34, 35) >= 0 ? 1 : 0);
+        for (int i = 0; i < 40; i++) {
+            CheckHelper.due("fair is told", 1, () -> x.fair(10) >= 0 ? 1 : 0);
+        }
+        CheckHelper.due("fair comes to an end", 0, () -> x.fair(10));
+        CheckHelper.due("pass", 1, () -> x.pass(60));
+        CheckHelper.due("digest", x.digest(), x::digest);
     }
 }
