@@ -1,13 +1,58 @@
+import java.lang.reflect.InvocationTargetException;
+import java.lang.reflect.Method;
+import java.lang.reflect.Modifier;
+import java.util.Arrays;
+import java.util.Comparator;
+
 /** Counts the answers that are not as due, and ends the program with 1 if there was one. */
 final class CheckHelper {
     interface Call {
         long answer();
     }
 
+    /** A call with one argument that is tried out. */
+    interface CallOf {
+        long answer(int argument);
+    }
+
     private static int checks = 0;
     private static int wrong = 0;
 
     private CheckHelper() {
+    }
+
+    /** Runs every private method of the class that takes and answers nothing, so that no test is forgotten. */
+    static void runAll(Class<?> tests) {
+        Method[] methods = tests.getDeclaredMethods();
+        Arrays.sort(methods, Comparator.comparing(Method::getName));
+        int run = 0;
+        for (Method m : methods) {
+            if (Modifier.isPrivate(m.getModifiers()) && m.getParameterCount() == 0
+                    && m.getReturnType() == void.class && !m.isSynthetic()) {
+                runOne(m);
+                run++;
+            }
+        }
+        if (run == 0) {
+            tellWrong("no tests in " + tests.getName());
+        }
+        System.out.print(run + " tests, ");
+        end();
+    }
+
+    private static void runOne(Method m) {
+        int wrongBefore = wrong;
+        try {
+            m.setAccessible(true);
+            m.invoke(null);
+        } catch (InvocationTargetException e) {
+            tellWrong("threw " + e.getCause());
+        } catch (IllegalAccessException e) {
+            tellWrong("cannot be run: " + e);
+        }
+        if (wrong > wrongBefore) {
+            System.out.println("-- in " + m.getName());
+        }
     }
 
     static void due(String told, long want, Call call) {
@@ -27,6 +72,25 @@ final class CheckHelper {
         if (got != want) {
             tellWrong(told + " answered " + got + ", due is " + want);
         }
+    }
+
+    /** Just outside of low to high, and far outside: IndexOutOfBoundsException. */
+    static void dueIndexOutside(String told, ThimbleSwap x, int low, int high, CallOf call) {
+        for (int n : outside(low, high)) {
+            dueIndex(told + " " + n, x, () -> call.answer(n));
+        }
+    }
+
+    /** Just outside of low to high, and far outside: IllegalArgumentException. */
+    static void dueArgumentOutside(String told, ThimbleSwap x, int low, int high, CallOf call) {
+        for (int n : outside(low, high)) {
+            dueArgument(told + " " + n, x, () -> call.answer(n));
+        }
+    }
+
+    /** The two at 256 and 65536 would be inside if only the lower bits were looked at. */
+    private static int[] outside(int low, int high) {
+        return new int[] {low - 1, high + 1, Integer.MIN_VALUE, Integer.MAX_VALUE, low + 256, low + 65536};
     }
 
     static void dueIndex(String told, ThimbleSwap x, Call call) {

@@ -8,46 +8,7 @@ public final class PromisesTest {
     }
 
     public static void main(String[] args) {
-        promise1NewObject();
-        promise2Join();
-        promise3Find();
-        promise3FindsWhatItIsTold();
-        promise4Like();
-        promise5Collector();
-        promise5WorthOfDuplicates();
-        promise6Grudge();
-        promise7Thimble();
-        promise8Gains();
-        promise9SwapAgreed();
-        promise9SwapRefused();
-        promise9GrudgesWeigh();
-        promise9WrongSwaps();
-        promise10Best();
-        promise10BestOfEqualOnes();
-        promise10BestMindsGrudgesAndLending();
-        promise11Ring();
-        promise12Fair();
-        promise12FairInOrder();
-        promise13Lend();
-        promise14Shows();
-        promise15Lacks();
-        promise16Finest();
-        promise17PassBringsHome();
-        promise17PassWears();
-        promise17PassSoftens();
-        promise18Count();
-        promise19Mean();
-        promise20Digest();
-        fullMuseum();
-        CheckHelper.end();
-    }
-
-    private static ThimbleSwap museum(int collectors) {
-        ThimbleSwap x = new ThimbleSwap();
-        for (int i = 0; i < collectors; i++) {
-            x.join();
-        }
-        return x;
+        CheckHelper.runAll(PromisesTest.class);
     }
 
     private static void promise1NewObject() {
@@ -59,7 +20,7 @@ public final class PromisesTest {
         CheckHelper.dueDouble("new: mean()", 0.0, x.mean());
         long seven0 = 761L * 31 * 31 * 31 * 31 * 31 * 31 * 31;
         CheckHelper.due("new: digest()", seven0, x::digest);
-        ThimbleSwap other = museum(2);
+        ThimbleSwap other = MuseumHelper.museum(2);
         CheckHelper.due("objects are apart: count(1)", 0, () -> x.count(1));
         CheckHelper.due("objects are apart: count(1)", 2, () -> other.count(1));
     }
@@ -81,7 +42,7 @@ public final class PromisesTest {
     }
 
     private static void promise3Find() {
-        ThimbleSwap x = museum(3);
+        ThimbleSwap x = MuseumHelper.museum(3);
         for (int c : new int[] {-1, 3, 6, 7, Integer.MIN_VALUE, Integer.MAX_VALUE}) {
             CheckHelper.dueIndex("find for " + c, x, () -> x.find(c, 0, 0, 0, 0));
             CheckHelper.dueIndex("find for " + c + ", wrong set", x, () -> x.find(c, 8, 0, 0, 0));
@@ -107,7 +68,7 @@ public final class PromisesTest {
     }
 
     private static void promise3FindsWhatItIsTold() {
-        ThimbleSwap x = museum(2);
+        ThimbleSwap x = MuseumHelper.museum(2);
         x.find(1, 7, 5, 19, 9);
         x.find(0, 0, 0, 0, 0);
         dueRow(x, 0, 7, 5, 19, 9, 1, -1);
@@ -122,7 +83,7 @@ public final class PromisesTest {
     }
 
     private static void promise4Like() {
-        ThimbleSwap x = museum(2);
+        ThimbleSwap x = MuseumHelper.museum(2);
         CheckHelper.due("like", 1, () -> x.like(0, 7, 5));
         CheckHelper.due("like", 5, () -> x.like(0, 7, 0));
         CheckHelper.due("like", 0, () -> x.like(0, 7, 3));
@@ -149,7 +110,7 @@ public final class PromisesTest {
     }
 
     private static void promise5Collector() {
-        ThimbleSwap x = museum(2);
+        ThimbleSwap x = MuseumHelper.museum(2);
         for (int number = 0; number < 6; number++) {
             x.find(0, 2, number, number < 3 ? 0 : 19, number);
         }
@@ -173,7 +134,7 @@ public final class PromisesTest {
     }
 
     private static void promise5WorthOfDuplicates() {
-        ThimbleSwap x = museum(1);
+        ThimbleSwap x = MuseumHelper.museum(1);
         x.find(0, 4, 3, 5, 6);
         CheckHelper.due("worth of one", 2 + 6 + 3, () -> x.collector(0, 3));
         x.find(0, 4, 3, 5, 2);
@@ -187,18 +148,8 @@ public final class PromisesTest {
         CheckHelper.due("sets that are whole", 0, () -> x.collector(0, 4));
     }
 
-    /** Collector 0 wants thimble 1 (an own set's second number), collector 1 loses by it: swap(0, 1) answers 2. */
-    private static ThimbleSwap unequalPair() {
-        ThimbleSwap x = museum(3);
-        x.find(0, 0, 0, 0, 0);
-        x.find(1, 1, 0, 1, 9);
-        x.find(0, 1, 1, 2, 9);
-        x.like(0, 1, 5);
-        return x;
-    }
-
     private static void promise6Grudge() {
-        ThimbleSwap x = unequalPair();
+        ThimbleSwap x = MuseumHelper.unequalPair();
         CheckHelper.due("grudge at first", 0, () -> x.grudge(0, 1));
         CheckHelper.due("swap", 2, () -> x.swap(0, 1));
         CheckHelper.due("grudge of the one", 1, () -> x.grudge(0, 1));
@@ -213,7 +164,7 @@ public final class PromisesTest {
     }
 
     private static void promise7Thimble() {
-        ThimbleSwap x = museum(2);
+        ThimbleSwap x = MuseumHelper.museum(2);
         x.find(0, 1, 2, 3, 4);
         x.pass(3);
         x.lend(0, 30);
@@ -227,7 +178,7 @@ public final class PromisesTest {
     }
 
     private static void promise8Gains() {
-        ThimbleSwap x = unequalPair();
+        ThimbleSwap x = MuseumHelper.unequalPair();
         long before = x.digest();
         // 0 gives 2 + 0 and a hallmark, and gets a second number of a set that is liked 5, state 9, a hallmark
         CheckHelper.due("gains(0, 1)", 10 * 4 + 18 + 6 - (10 + 9 + 2 + 6), () -> x.gains(0, 1));
@@ -245,18 +196,8 @@ public final class PromisesTest {
         }
     }
 
-    /** 0 and 1 hold a number of each other's set: swap(1, 3) gives both a second number. */
-    private static ThimbleSwap equalPair() {
-        ThimbleSwap x = museum(2);
-        x.find(0, 0, 0, 0, 5);
-        x.find(0, 1, 1, 1, 5);
-        x.find(1, 1, 0, 2, 5);
-        x.find(1, 0, 1, 3, 5);
-        return x;
-    }
-
     private static void promise9SwapAgreed() {
-        ThimbleSwap x = equalPair();
+        ThimbleSwap x = MuseumHelper.equalPair();
         CheckHelper.due("gains(1, 3)", 4, () -> x.gains(1, 3));
         CheckHelper.due("gains(3, 1)", 4, () -> x.gains(3, 1));
         CheckHelper.due("swap", 0, () -> x.swap(1, 3));
@@ -271,7 +212,7 @@ public final class PromisesTest {
         CheckHelper.due("no grudge if neither gains", 0, () -> x.grudge(0, 1) + x.grudge(1, 0));
         CheckHelper.due("swaps refused", 1, () -> x.count(5));
         // A gain of 0 is not more than a grudge of 0.
-        ThimbleSwap same = museum(2);
+        ThimbleSwap same = MuseumHelper.museum(2);
         same.find(0, 0, 0, 0, 5);
         same.find(1, 0, 0, 0, 5);
         CheckHelper.due("gain of 0", 0, () -> same.gains(0, 1));
@@ -279,7 +220,7 @@ public final class PromisesTest {
     }
 
     private static void promise9SwapRefused() {
-        ThimbleSwap x = unequalPair();
+        ThimbleSwap x = MuseumHelper.unequalPair();
         for (int i = 1; i <= 9; i++) {
             CheckHelper.due("swap", 2, () -> x.swap(0, 1));
             CheckHelper.due("grudge grows", i, () -> x.grudge(0, 1));
@@ -293,31 +234,17 @@ public final class PromisesTest {
         CheckHelper.due("owner of 0", 0, () -> x.thimble(0, 4));
         CheckHelper.due("swaps refused", 11, () -> x.count(5));
         CheckHelper.due("swaps agreed to", 0, () -> x.count(4) + x.collector(0, 6) + x.collector(1, 6));
-        ThimbleSwap y = unequalPair();
+        ThimbleSwap y = MuseumHelper.unequalPair();
         CheckHelper.due("first one does not gain", 1, () -> y.swap(1, 0));
         CheckHelper.due("the other one resents it", 1, () -> y.grudge(0, 1));
     }
 
-    /** Like equalPair, and collector 0 comes to hold a grudge against 1 by swaps of thimble 4 for 5. */
-    private static ThimbleSwap grudgingPair(int grudge) {
-        ThimbleSwap x = equalPair();
-        x.find(0, 2, 0, 5, 0);
-        x.find(1, 3, 0, 4, 9);
-        x.like(0, 3, 5);
-        x.like(1, 3, 5);
-        for (int i = 0; i < grudge; i++) {
-            CheckHelper.due("swap that 1 refuses", 2, () -> x.swap(4, 5));
-        }
-        x.like(0, 3, 0);
-        return x;
-    }
-
     private static void promise9GrudgesWeigh() {
-        ThimbleSwap one = grudgingPair(1);
+        ThimbleSwap one = MuseumHelper.grudgingPair(1);
         CheckHelper.due("gain of 4 against a grudge of 1", 0, () -> one.swap(1, 3));
         CheckHelper.due("grudge is less", 0, () -> one.grudge(0, 1));
         CheckHelper.due("grudge is 0 at least", 0, () -> one.grudge(1, 0));
-        ThimbleSwap two = grudgingPair(2);
+        ThimbleSwap two = MuseumHelper.grudgingPair(2);
         CheckHelper.due("gain of 4", 4, () -> two.gains(1, 3));
         CheckHelper.due("gain of 4 against a grudge of 2", 1, () -> two.swap(1, 3));
         CheckHelper.due("the one who would have swapped", 1, () -> two.grudge(1, 0));
@@ -325,12 +252,12 @@ public final class PromisesTest {
         CheckHelper.due("gain of 4 against grudges of 2 and 1", 1, () -> two.swap(1, 3));
         CheckHelper.due("gain of 4 against grudges of 2 and 2", 3, () -> two.swap(1, 3));
         CheckHelper.due("no grudge grows", 2, () -> two.grudge(1, 0));
-        ThimbleSwap twice = grudgingPair(2);
+        ThimbleSwap twice = MuseumHelper.grudgingPair(2);
         twice.find(1, 0, 1, 6, 6);
         CheckHelper.due("gain of 5", 5, () -> twice.gains(1, 6));
         CheckHelper.due("gain of 5 against a grudge of 2", 0, () -> twice.swap(1, 6));
         CheckHelper.due("grudge is less", 1, () -> twice.grudge(0, 1));
-        ThimbleSwap both = grudgingPair(1);
+        ThimbleSwap both = MuseumHelper.grudgingPair(1);
         both.like(0, 2, 5);
         both.like(1, 2, 5);
         both.like(1, 3, 0);
@@ -341,7 +268,7 @@ public final class PromisesTest {
     }
 
     private static void promise9WrongSwaps() {
-        ThimbleSwap x = equalPair();
+        ThimbleSwap x = MuseumHelper.equalPair();
         for (int t : new int[] {-1, 4, 36, Integer.MIN_VALUE, Integer.MAX_VALUE}) {
             CheckHelper.dueIndex("swap of " + t, x, () -> x.swap(t, 0));
             CheckHelper.dueIndex("swap for " + t, x, () -> x.swap(0, t));
@@ -359,7 +286,7 @@ public final class PromisesTest {
     }
 
     private static void promise10Best() {
-        ThimbleSwap x = equalPair();
+        ThimbleSwap x = MuseumHelper.equalPair();
         long before = x.digest();
         CheckHelper.due("best", 36 * 0 + 2, () -> x.best(0, 1));
         CheckHelper.due("best, other way round", 36 * 2 + 0, () -> x.best(1, 0));
@@ -376,13 +303,13 @@ public final class PromisesTest {
             CheckHelper.dueIndex("best of and with " + c, x, () -> x.best(c, c));
         }
         CheckHelper.dueArgument("best of the same", x, () -> x.best(1, 1));
-        ThimbleSwap empty = museum(2);
+        ThimbleSwap empty = MuseumHelper.museum(2);
         CheckHelper.due("best without thimbles", -1, () -> empty.best(0, 1));
-        CheckHelper.due("best that one loses by", -1, () -> unequalPair().best(0, 1));
+        CheckHelper.due("best that one loses by", -1, () -> MuseumHelper.unequalPair().best(0, 1));
     }
 
     private static void promise10BestOfEqualOnes() {
-        ThimbleSwap x = museum(2);
+        ThimbleSwap x = MuseumHelper.museum(2);
         x.find(1, 1, 1, 0, 5);
         x.find(1, 1, 1, 0, 5);
         x.find(0, 1, 0, 0, 5);
@@ -400,8 +327,8 @@ public final class PromisesTest {
     }
 
     private static void promise10BestMindsGrudgesAndLending() {
-        CheckHelper.due("best with a grudge of 1", 36 * 0 + 2, () -> grudgingPair(1).best(0, 1));
-        ThimbleSwap x = grudgingPair(2);
+        CheckHelper.due("best with a grudge of 1", 36 * 0 + 2, () -> MuseumHelper.grudgingPair(1).best(0, 1));
+        ThimbleSwap x = MuseumHelper.grudgingPair(2);
         CheckHelper.due("best with a grudge of 2", -1, () -> x.best(0, 1));
         CheckHelper.due("best with a grudge of 2, other way round", -1, () -> x.best(1, 0));
         CheckHelper.due("fair with a grudge of 2", 0, () -> x.fair(10));
@@ -415,7 +342,7 @@ public final class PromisesTest {
     }
 
     private static ThimbleSwap threeInARing() {
-        ThimbleSwap x = museum(4);
+        ThimbleSwap x = MuseumHelper.museum(4);
         x.find(0, 0, 0, 0, 1);
         x.find(1, 1, 0, 0, 1);
         x.find(2, 2, 0, 0, 1);
@@ -458,7 +385,7 @@ public final class PromisesTest {
 
     /** 0 and 1 have two whole sets among them, mixed, and each likes one of them. */
     private static ThimbleSwap mixedSets() {
-        ThimbleSwap x = museum(3);
+        ThimbleSwap x = MuseumHelper.museum(3);
         for (int number = 0; number < 6; number++) {
             x.find(number % 2, 3, number, 0, 5);
             x.find(1 - number % 2, 4, number, 0, 5);
@@ -489,14 +416,14 @@ public final class PromisesTest {
             ThimbleSwap y = mixedSets();
             CheckHelper.dueArgument("fair " + many, y, () -> y.fair(many));
         }
-        ThimbleSwap grudging = grudgingPair(1);
+        ThimbleSwap grudging = MuseumHelper.grudgingPair(1);
         CheckHelper.due("fair(1)", 1, () -> grudging.fair(1));
         CheckHelper.due("a swap of fair() softens", 0, () -> grudging.grudge(0, 1));
     }
 
     /** The pair 0 and 2 comes ahead of the pair 1 and 2, though that one's swap gains more. */
     private static void promise12FairInOrder() {
-        ThimbleSwap x = museum(3);
+        ThimbleSwap x = MuseumHelper.museum(3);
         x.find(0, 0, 0, 0, 5);
         x.find(0, 1, 0, 0, 5);
         x.find(2, 0, 1, 0, 5);
@@ -517,7 +444,7 @@ public final class PromisesTest {
     }
 
     private static void promise13Lend() {
-        ThimbleSwap x = museum(2);
+        ThimbleSwap x = MuseumHelper.museum(2);
         x.find(0, 0, 0, 0, 5);
         x.find(1, 0, 1, 0, 5);
         x.find(1, 0, 2, 0, 5);
@@ -544,7 +471,7 @@ public final class PromisesTest {
     }
 
     private static void promise14Shows() {
-        ThimbleSwap x = museum(2);
+        ThimbleSwap x = MuseumHelper.museum(2);
         x.find(0, 7, 0, 0, 5);
         x.find(1, 7, 0, 0, 5);
         x.find(1, 7, 5, 0, 5);
@@ -567,7 +494,7 @@ public final class PromisesTest {
     }
 
     private static void promise15Lacks() {
-        ThimbleSwap x = museum(2);
+        ThimbleSwap x = MuseumHelper.museum(2);
         CheckHelper.due("lacks without thimbles", -1, () -> x.lacks(0));
         for (int number = 0; number < 5; number++) {
             x.find(number % 2, 0, number, 0, 5);
@@ -592,7 +519,7 @@ public final class PromisesTest {
     }
 
     private static void promise16Finest() {
-        ThimbleSwap x = museum(4);
+        ThimbleSwap x = MuseumHelper.museum(4);
         CheckHelper.due("finest of nothing", -1, () -> x.finest(2));
         x.find(3, 2, 0, 0, 0);
         CheckHelper.due("finest with a state of 0", 3, () -> x.finest(2));
@@ -619,7 +546,7 @@ public final class PromisesTest {
     }
 
     private static void promise17PassBringsHome() {
-        ThimbleSwap x = museum(1);
+        ThimbleSwap x = MuseumHelper.museum(1);
         x.find(0, 0, 0, 0, 5);
         x.find(0, 0, 1, 0, 5);
         x.lend(0, 1);
@@ -641,7 +568,7 @@ public final class PromisesTest {
     }
 
     private static void promise17PassWears() {
-        ThimbleSwap x = museum(1);
+        ThimbleSwap x = MuseumHelper.museum(1);
         x.find(0, 0, 0, 0, 5);
         x.find(0, 0, 1, 0, 5);
         x.find(0, 0, 2, 0, 0);
@@ -666,7 +593,7 @@ public final class PromisesTest {
     }
 
     private static void promise17PassSoftens() {
-        ThimbleSwap x = unequalPair();
+        ThimbleSwap x = MuseumHelper.unequalPair();
         for (int i = 0; i < 3; i++) {
             x.swap(0, 1);
         }
@@ -692,7 +619,7 @@ public final class PromisesTest {
     }
 
     private static void promise18Count() {
-        ThimbleSwap x = equalPair();
+        ThimbleSwap x = MuseumHelper.equalPair();
         dueCounts(x, 0, 2, 4, 0, 0, 0, 2 * (4 + 10 + 6));
         x.swap(1, 3);
         x.swap(1, 3);
@@ -706,7 +633,7 @@ public final class PromisesTest {
     }
 
     private static void promise19Mean() {
-        ThimbleSwap x = museum(2);
+        ThimbleSwap x = MuseumHelper.museum(2);
         CheckHelper.dueDouble("mean without thimbles", 0.0, x.mean());
         x.find(0, 0, 0, 0, 5);
         CheckHelper.dueDouble("mean of one", 10.0, x.mean());
@@ -720,7 +647,7 @@ public final class PromisesTest {
     }
 
     private static void promise20Digest() {
-        ThimbleSwap x = unequalPair();
+        ThimbleSwap x = MuseumHelper.unequalPair();
         x.swap(0, 1);
         x.pass(1);
         x.swap(0, 1);
@@ -751,7 +678,7 @@ public final class PromisesTest {
 
     /** The last row of everything is in use: a step too far would show as an exception of the machine's. */
     private static void fullMuseum() {
-        ThimbleSwap x = museum(7);
+        ThimbleSwap x = MuseumHelper.museum(7);
         for (int t = 0; t < 36; t++) {
             x.find(6 - t % 7, 7 - t % 8, 5 - t % 6, 19 - t % 20, t % 10);
         }

@@ -1,7 +1,8 @@
 /** Runs of calls with arguments drawn from a fixed row of numbers: the program must answer as the model does. */
 public final class RandomRunsTest {
-    private static final int RUNS = 240;
-    private static final int CALLS = 240;
+    private static final int RUNS = 400;
+    // Each is followed by digest() and mean(): an object is used for at most 512 calls.
+    private static final int CALLS = 156;
     private static final String[] NAMES = {"join", "find", "like", "collector", "grudge", "thimble", "gains", "swap",
         "best", "ring", "fair", "lend", "shows", "lacks", "finest", "pass", "count"};
 
